@@ -186,6 +186,17 @@ final class CountTest {
         Check.due("23: 1 and 6", x.alike(1), 16);
         Check.due("23: 3 and 6", x.alike(2), 36);
         Check.due("23: no more", x.alike(3), NodTax.NONE);
+        x.leave(7);
+        x.hearer(0, 2, 0, 0, 0, false);
+        x.hearer(2, 1, 0, 0, 0, false);
+        Check.due("23: ten twos of five", x.alike(-1), 10);
+        int[] twos = {1, 2, 3, 6, 12, 13, 16, 23, 26, 36};
+        for (int i = 0; i < twos.length; i++) {
+            Check.due("23: alike(" + i + ")", x.alike(i), twos[i]);
+        }
+        x.leave(0);
+        x.leave(2);
+        x.hearer(7, 2, 20, 0, 0, false);
         Check.text(x, "h");
         Check.due("23: never is alike, too", x.alike(-1), 2);
         Check.due("23: 1 and 6 nod", x.alike(0), 16);

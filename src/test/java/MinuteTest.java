@@ -29,6 +29,10 @@ final class MinuteTest {
         x.hearer(0, 0, 20, 1, 0, false);
         Check.text(x, "wwwwhhooccnns~");
         levels(x, 0, 17, 14, 11, 8, 10, 12, 12, 12, 11, 10, 14, 18, 20, 20);
+        Check.text(x, "wwww~~s");
+        levels(x, 0, 17, 14, 11, 8, 9, 10, 13);
+        Check.text(x, "wwwwcnhos~");
+        levels(x, 0, 17, 14, 11, 8, 7, 11, 13, 13, 16, 17);
     }
 
     private static void bothTogether() {
@@ -74,6 +78,9 @@ final class MinuteTest {
         x.leave(2);
         levels(x, 5, 20, 15, 15, 10, 5);
         levels(x, 7, 15, 15, 10, 10, 5);
+        Check.text(x, "cncn");
+        levels(x, 5, 15, 15, 10, 5);
+        levels(x, 7, 15, 10, 5, 5);
     }
 
     private static void nodsAndSnores() {
@@ -217,6 +224,10 @@ final class MinuteTest {
         x.hearer(0, 0, 9, 1, 0, false);
         Check.due("11: nods together", x.first(0), 3);
         Check.due("11: the first snore", x.first(1), 3);
+        x.leave(2);
+        x.hearer(2, 4, 0, 0, 0, false);
+        Check.due("11: in minute 0", x.first(0), 0);
+        x.leave(2);
         Check.text(x, "h");
         Check.due("11: nobody", x.first(0), NodTax.NONE);
         Check.due("11: what -1", x.first(-1), NodTax.OUTSIDE);

@@ -194,6 +194,21 @@ final class OrderTest {
         // both nod twice; one upright elbows the other to 2, so he nods once
         Check.due("16: now", x.sum(-1, 2), 4);
         hires(x, 1, 1, 1);
+        x.church(2);
+        for (int h = 0; h < 8; h++) {
+            x.hearer(h, h, 0, 0, 0, false);
+        }
+        Check.text(x, "h");
+        hires(x, 7, 1, 1);
+        hires(x, 0, 8, 255);
+        x.set(1, 0);
+        hires(x, 0, 0, 0);
+        x.set(1, 1);
+        x.church(1);
+        x.hearer(0, 0, 9, 5, 0, false);
+        Check.text(x, "cc");
+        // 9, 4, 0: dull in each minute, and a nod in the second
+        hires(x, 0, 1, 1);
     }
 
     private static void promise16Refusals() {
@@ -232,6 +247,12 @@ final class OrderTest {
         Check.due("17: awake in the first h", x.least(), NodTax.NONE);
         Check.text(x, "h");
         Check.due("17: and nodding in the second", x.least(), 1);
+        x.church(2);
+        for (int h = 0; h < 8; h++) {
+            x.hearer(h, h, h == 7 ? 0 : 20, 0, 0, false);
+        }
+        Check.text(x, "ww");
+        Check.due("17: 7 given, 1 taxed, whatever came ahead", x.least(), 7);
     }
 
     private static void promise17Refusals() {

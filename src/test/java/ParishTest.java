@@ -195,6 +195,17 @@ final class ParishTest {
             Check.due("28: told(" + (60 + k) + ")", x.told(60 + k), his[k]);
         }
         Check.due("28: the sight is the old one", x.preached(-1), 0);
+        x.church(3);
+        x.hearer(5, 11, 2, 0, 1, false);
+        x.seen(1, 1);
+        x.image(1);
+        x.hearer(5, 10, 2, 0, 0, false);
+        x.forget();
+        x.seen(59, 1);
+        x.restore(1);
+        Check.due("28: his creed and the sight's minute are back", x.preached(-1), 1);
+        x.hearer(5, 11, 2, 2, 1, true);
+        x.image(1);
         x.leave(5);
         x.forget();
         Check.due("28: restore(1) again", x.restore(1), 1);
