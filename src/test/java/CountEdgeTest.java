@@ -370,9 +370,10 @@ final class CountEdgeTest {
         }
         Edge.asked(believerAndOther("h".repeat(60)), "never, both", 1, y -> y.alike(-1));
         NodTax x = Edge.made(believerAndOther("c"));
-        Edge.due("asked of one SERMON", x.alike(-1), 0);
+        x.hearer(7, 4, 20, 0, 1, false);
+        Edge.due("0 and 7 of one SERMON", x.alike(-1), 1);
         x.wipe();
-        Edge.due("and of the empty PAD", x.alike(-1), 1);
+        Edge.due("and all of the empty PAD", x.alike(-1), 3);
         // 0 in both minutes, 1 in the second alone, 2 in none
         Edge.Making tired = y -> {
             y.hearer(0, 0, 0, 0, 0, false);

@@ -109,6 +109,13 @@ final class ParishEdgeTest {
             Edge.due("church 1", x.parishes(1), 3);
             Edge.due("church 2", x.parishes(2), 4);
         }
+        for (int hearer : new int[] {0, 7}) {
+            NodTax y = new NodTax();
+            y.hearer(hearer, 0, 0, 0, 0, false);
+            Edge.due("one goes", y.parishes(-1), 2);
+            Edge.due("and when asked again", y.parishes(-1), 2);
+            Edge.due("to church 2", y.parishes(2), 1);
+        }
     }
 
     private static void parishesWhateverIsOnThePad() {
