@@ -19,7 +19,26 @@ final class ModelTest {
         for (int seed = 0; seed < RUNS; seed++) {
             new ModelTest(seed).play();
         }
+        allParishes();
         Check.end();
+    }
+
+    /** Each HEARER is not there, of CREED 0, or of CREED 1: few enough to ask for all of them. */
+    private static void allParishes() {
+        for (int code = 0; code < 6561; code++) {
+            NodTax x = new NodTax();
+            PlainModel y = new PlainModel();
+            for (int hearer = 0, rest = code; hearer < 8; hearer++, rest /= 3) {
+                if (rest % 3 != 0) {
+                    x.hearer(hearer, hearer, 5, 1, rest % 3 - 1, false);
+                    y.hearer(hearer, hearer, 5, 1, rest % 3 - 1, false);
+                }
+            }
+            for (int church = -1; church <= 2; church++) {
+                Check.due("church " + code + ": parishes " + church, x.parishes(church), y.parishes(church));
+            }
+            Check.holds("church " + code + ": rounds end", x.parishes(-1) >= 1 && x.parishes(-1) <= 4);
+        }
     }
 
     private void play() {
